@@ -192,6 +192,13 @@ public final class RoundsTest {
         CHECK.holds("16: eight go on", swapped > 0);
         due("16: swapped of all", x.now(5), swapped);
         due("16: all things are still there", x.now(2), 255);
+        BreakSwaps y = new BreakSwaps();
+        for (int c = 0; c < 8; c++) {
+            y.child(CHILD, c);
+        }
+        due("16: all like the same: no ring", y.ring(), Check.NONE);
+        due("16: all like the same: over", y.over(), 0);
+        due("16: trust", y.count(2), 400);
     }
 
     /** It takes more than 512 calls to come there, so no document asks this; it is kept all the same. */

@@ -50,7 +50,9 @@ public final class SheetsTest {
         due("30: another is missing", x.write(2, 0, 7), Check.MISSING);
         due("30: anew", x.sheet(0, 8, 40), 40);
         due("30: all 0", x.write(0, 39, 7), 0);
+        x.write(0, 0, 7);
         x.sheet(0, 8, 3);
+        due("30: the first, too", x.write(0, 0, 7), 0);
         x.sheet(0, 8, 40);
         due("30: still all 0", x.write(0, 39, 7), 0);
         due("30: missing", x.sheet(0, 0, 12), 0);

@@ -191,6 +191,10 @@ public final class TextTest {
         BreakSwaps y = new BreakSwaps();
         due("29: as many as can be", Check.yard(y, "none;".repeat(23) + "none "), 24);
         String full = "child 3 likes 1 2 3 4" + " ".repeat(90) + ";teacher ";
+        Check.feed(y, "child 39 trust");
+        due("29: nothing is left of what was wiped", Check.yard(y, "child 3"), 1);
+        String digit = " ".repeat(113) + "child 5";
+        due("29: 120 bytes with a digit at the end", digit.length() == 120 ? Check.yard(y, digit) : digit.length(), 1);
         due("29: 120 bytes", full.length() == 120 ? Check.yard(y, full) : full.length(), 2);
     }
 
