@@ -28,7 +28,6 @@ public final class BreakSwaps {
     private static final int NEAR = 40;
     private static final int LEAST_WISH = -20;
     private static final int MOST_WISH = 40;
-    private static final int LOW = -1000000;
 
     private static final int SHEETS = 4;
     private static final int MOST_NUMBERS = 40;
@@ -38,8 +37,9 @@ public final class BreakSwaps {
     private final Yard kept = new Yard();
     /** What would be is tried here, so that nothing of the live yard changes. */
     private final Yard trial = new Yard();
-    private final Tape tape = new Tape();
-    private final YardText text = new YardText(tape);
+    private final Best best = new Best();
+    private final YardText text = new YardText();
+    private final Tape tape = text.tape;
     private final Sheet[] sheets = new Sheet[SHEETS];
     private final int[] found = new int[FINDINGS];
     private boolean isKept = false;
@@ -268,59 +268,45 @@ public final class BreakSwaps {
         if (!isThere(child) || !isWithin(n, 0, NEAR)) {
             return finding(BEYOND);
         }
-        int best = -1;
-        int most = LOW;
+        best.begin();
         for (int other = 0; other < live.size; other++) {
-            if (other == child) {
-                continue;
-            }
-            trial.become(live);
-            trial.exchange(child, other);
-            trial.goOn(n);
-            if (trial.gladOf(child) > most) {
-                most = trial.gladOf(child);
-                best = other;
+            if (other != child) {
+                trial.become(live);
+                trial.exchange(child, other);
+                trial.goOn(n);
+                best.offer(other, trial.gladOf(child));
             }
         }
-        return best < 0 ? finding(NONE) : best;
+        return bestOrNone();
     }
 
     public int bring(int child, int n) {
         if (!isThere(child) || !isWithin(n, 0, NEAR)) {
             return finding(BEYOND);
         }
-        int best = 0;
-        int most = LOW;
+        best.begin();
         for (int thing = 0; thing < THINGS; thing++) {
             trial.become(live);
             trial.give(child, thing);
             trial.goOn(n);
-            if (trial.gladOf(child) > most) {
-                most = trial.gladOf(child);
-                best = thing;
-            }
+            best.offer(thing, trial.gladOf(child));
         }
-        return best;
+        return bestOrNone();
     }
 
     public int kind(int child, int n) {
         if (!isThere(child) || !isWithin(n, 0, NEAR)) {
             return finding(BEYOND);
         }
-        int best = 0;
-        int most = LOW;
+        best.begin();
         for (int kind = 0; kind < Kinds.KINDS; kind++) {
             trial.become(live);
             trial.kinds[child] = kind;
             trial.goOn(n);
             // How much it likes a thing is the same as any kind, so that kinds can be compared by it.
-            int liked = trial.likedBy(child, trial.has[child]);
-            if (liked > most) {
-                most = liked;
-                best = kind;
-            }
+            best.offer(kind, trial.likedBy(child, trial.has[child]));
         }
-        return best;
+        return bestOrNone();
     }
 
     public int trust(int child, int n, int v) {
@@ -342,18 +328,14 @@ public final class BreakSwaps {
         if (!isWithin(n, 0, NEAR)) {
             return finding(BEYOND);
         }
-        int best = -1;
-        int most = LOW;
+        best.begin();
         for (int child = 0; child < live.size; child++) {
             trial.become(live);
             trial.trusts[child] = 0;
             trial.goOn(n);
-            if (trial.gladOfAll() > most) {
-                most = trial.gladOfAll();
-                best = child;
-            }
+            best.offer(child, trial.gladOfAll());
         }
-        return best < 0 ? finding(NONE) : best;
+        return bestOrNone();
     }
 
     public int winner(int n) {
@@ -362,16 +344,11 @@ public final class BreakSwaps {
         }
         trial.become(live);
         trial.goOn(n);
-        int best = -1;
-        int most = LOW;
+        best.begin();
         for (int child = 0; child < live.size; child++) {
-            int more = trial.gladOf(child) - live.gladOf(child);
-            if (more > most) {
-                most = more;
-                best = child;
-            }
+            best.offer(child, trial.gladOf(child) - live.gladOf(child));
         }
-        return best < 0 ? finding(NONE) : best;
+        return bestOrNone();
     }
 
     // ---- the text
@@ -559,6 +536,10 @@ public final class BreakSwaps {
         return FINDING - which;
     }
 
+    private int bestOrNone() {
+        return best.which < 0 ? finding(NONE) : best.which;
+    }
+
     private static boolean isWithin(int v, int least, int most) {
         return v >= least && v <= most;
     }
@@ -597,6 +578,23 @@ public final class BreakSwaps {
             return MISSING;
         }
         return isThere(child) ? -1 : BEYOND;
+    }
+
+    /** Which of several offers, made by rising numbers, is most; of several the first, so the least. */
+    private static final class Best {
+        int which = -1;
+        private int most = 0;
+
+        void begin() {
+            which = -1;
+        }
+
+        void offer(int one, int v) {
+            if (which < 0 || v > most) {
+                which = one;
+                most = v;
+            }
+        }
     }
 
     /** The document's rules in which the kinds differ. */
@@ -678,6 +676,7 @@ public final class BreakSwaps {
         private final int[] liked = new int[MOST_CHILDREN * THINGS];
         /** How many have each thing; a swap changes none of these. */
         private final int[] holders = new int[THINGS];
+        private final Best toAsk = new Best();
         /** How many rounds in a row, up to now, saw no swap. */
         private int quiet = 0;
 
@@ -868,17 +867,15 @@ public final class BreakSwaps {
 
         /** The one not yet asked that has what is worth most to a child; -1: nobody is left. */
         private int nextToAsk(int child, int asked) {
-            int best = -1;
-            int most = LOW;
+            toAsk.begin();
             for (int other = 0; other < size; other++) {
                 boolean isOpen = (asked >> other & 1) == 0 && trusts[other] >= TRUST_TO_BE_ASKED;
                 // A child has the same thing as itself, so this leaves it out, too.
-                if (isOpen && has[other] != has[child] && worthTo(child, has[other]) > most) {
-                    most = worthTo(child, has[other]);
-                    best = other;
+                if (isOpen && has[other] != has[child]) {
+                    toAsk.offer(other, worthTo(child, has[other]));
                 }
             }
-            return best;
+            return toAsk.which;
         }
 
         /** Whether, going on from here, one has at each round what the sheet says. */
@@ -1023,11 +1020,7 @@ public final class BreakSwaps {
     private static final class YardText {
         private static final int MOST_LIKES = 4;
 
-        private final Tape tape;
-
-        YardText(Tape tape) {
-            this.tape = tape;
-        }
+        final Tape tape = new Tape();
 
         /** How many items came to the yard, or -1 less the place of the fault (some may have come then). */
         int readInto(Yard yard) {
