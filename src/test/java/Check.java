@@ -23,6 +23,10 @@ final class Check {
         due(what, is ? 1 : 0, 1);
     }
 
+    int asked() {
+        return asked;
+    }
+
     boolean isRight() {
         return wrong == 0;
     }
