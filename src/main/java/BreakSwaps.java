@@ -1014,8 +1014,8 @@ public final class BreakSwaps {
     }
 
     /**
-     * The text of a yard. Each part is read from the token at which the tape is, and answers whether it can stand there;
-     * where it can't, the tape stays at the token at fault.
+     * The text of a yard. Each part is read from the token at which the tape is, and answers whether it can stand
+     * there; where it can't, the tape stays at the token at fault.
      */
     private static final class YardText {
         private static final int MOST_LIKES = 4;

@@ -23,6 +23,9 @@ final class ImagesEdges {
             .due("of(0, 0)", 4).due("of(1, 0)", 1).have("3 8").swapped("0 9999").trusts("9 50")
             .due("likes(0, 0, 4)", 4).due("likes(1, 9, 8)", 8).due("who(0)", 0).due("worth(1, 8)", 4)
             .due("worth(1, 0)", 0).due("count(1)", 5);
+        // Sheets are told in section 3: they stay as they are.
+        e.empty().go("sheet(0, 8, 1); sheet(1, 8, 1); image(); write(0, 0, 5); sheet(1, 0, 0); sheet(2, 64, 2)")
+            .due("undo()", 0).due("write(0, 0, 6)", 5).due("write(1, 0, 0)", Check.MISSING).due("write(2, 1, 0)", 0);
         // An empty yard can be kept, too, and a full one.
         e.empty().due("image()", 1).go("child(0, 0)").due("undo()", 0).due("count(0)", 0);
         e.yard("child 3" + ";child 3".repeat(7)).due("image()", 1).go("set(7, 1, 9)").due("undo()", 8)

@@ -175,7 +175,6 @@ final class RoundsEdges {
             .due("on(0, 1, 0)", 3).due("on(0, 1, 1)", 3).due("on(0, 1, 2)", 20).due("on(0, 1, 3)", 8)
             .due("on(2, 100, 0)", 2).due("on(2, 100, 1)", 5).due("on(2, 100, 2)", 0).due("on(2, 100, 3)", 8)
             .due("now(0)", 0).have("1 2 3").swapped("0 0 0").trusts("50 50 50");
-        late(99999).tellDue("child 0; child 3 likes 20", 2);
         late(99999).go("child(0, 0); child(0, 3); likes(1, 0, 20)").due("on(0, 1, 0)", 3).due("on(0, 100, 0)", 3)
             .due("now(0)", 99999);
         e.same("on(0, 100, 2)");
@@ -223,7 +222,7 @@ final class RoundsEdges {
             .go("teacher(1)").due("over()", 0);
         e.changes("set(0, 1, 3); set(2, 1, 3); set(5, 1, 3); set(6, 1, 3)", "over()", "");
         e.says("NONE.");
-        // They would, but 0 isn't trusted and 1 asks nobody.
+        // They would, but neither is trusted.
         e.yard("child 3 trust 0; child 0 trust 0").go("likes(0, 0, 20)").due("now(4)", 0).due("over()", Check.NONE)
             .go("set(0, 3, 10)").due("over()", 1);
         e.yard(THREE_CHEATS).due("over()", Check.NONE);

@@ -27,12 +27,12 @@ final class Run {
         return this;
     }
 
-    /** What each child has, as a row of digits. */
+    /** What each child has, parted by blanks. */
     Run have(String want) {
         return each("has", 1, want);
     }
 
-    /** How often each has swapped, as a row of numbers parted by blanks. */
+    /** How often each has swapped, parted by blanks. */
     Run swapped(String want) {
         return each("swapped", 2, want);
     }
